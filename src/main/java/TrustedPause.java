@@ -597,7 +597,7 @@ public final class TrustedPause {
         }
     }
 
-    /** A text lived through, ACT by ACT up to the first that can not be, by a family that is not the real one. */
+    /** A text lived through, up to the first ACT that can not be, by a family that is not the real one. */
     private static final class Day {
         final Family family = new Family();
         int acts = 0;
@@ -610,16 +610,19 @@ public final class TrustedPause {
         void walk(Pad pad, Family before) {
             begin(before);
             int place = 0;
-            while (acts < SIGNS && place < pad.count && stuckAct == NONE) {
+            for (int act = 0; act < SIGNS && place < pad.count && stuckAct == NONE; act++) {
                 int savedBefore = family.saved;
-                int reason = act(pad, place);
+                int reason = tryAct(pad, place);
                 if (reason != CAN) {
-                    stuckAct = acts;
+                    stuckAct = act;
                     stuckReason = reason;
                 } else {
-                    noteSaving(savedBefore, pad.signAt(place) - 'A');
+                    if (firstAct == NONE && family.saved > savedBefore) {
+                        firstAct = act;
+                        firstKin = pad.signAt(place) - 'A';
+                    }
                     place += pad.lengthOfAct(place);
-                    acts++;
+                    acts = act + 1;
                 }
             }
         }
@@ -633,14 +636,7 @@ public final class TrustedPause {
             firstKin = NONE;
         }
 
-        private void noteSaving(int savedBefore, int kin) {
-            if (firstAct == NONE && family.saved > savedBefore) {
-                firstAct = acts;
-                firstKin = kin;
-            }
-        }
-
-        private int act(Pad pad, int place) {
+        private int tryAct(Pad pad, int place) {
             if (pad.signAt(place) == '!') return family.fallBack();
             int kin = pad.signAt(place) - 'A';
             switch (pad.signAt(place + 1)) {
@@ -775,7 +771,7 @@ public final class TrustedPause {
             return digits;
         }
 
-        /** By how many letters are left, behind one of the set or another: how often the set can still come, as bits. */
+        /** How often the set can still come, as bits, by how many letters are left behind one of it or another. */
         private void openWays(int ins) {
             int outs = LETTERS - ins;
             openIn[0] = 1;

@@ -17,6 +17,7 @@ final class ChanceTest {
         doorMean();
         doorRefused();
         year();
+        shortYears();
         yearOfTheDead();
         yearRefused();
         CHECK.end();
@@ -158,6 +159,13 @@ final class ChanceTest {
             CHECK.same("done()", family.done(), 2);
         }
         yearByActs(x, other, 99, 80);
+    }
+
+    /** Few draws, of many seeds, so that each draw tells. */
+    private static void shortYears() {
+        for (int seed = 0; seed < 10000; seed += 97) {
+            for (int m = 1; m <= 4; m++) yearByActs(livelyFamily(), livelyFamily(), seed, m);
+        }
     }
 
     private static void yearOfTheDead() {

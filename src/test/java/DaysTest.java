@@ -36,6 +36,7 @@ final class DaysTest {
         CHECK.same("judge(1)", x.judge(1), -6);
         CHECK.same("judge(2)", x.judge(2), 0);
         CHECK.same("behind(0, 0)", x.behind(0, 0), 1);
+        CHECK.same("behind(7, 0)", x.behind(7, 0), 1);
         CHECK.same("behind(0, 1)", x.behind(0, 1), 30);
         CHECK.same("behind(0, 2)", x.behind(0, 2), 1);
         CHECK.same("behind(1, 2)", x.behind(1, 2), 0);

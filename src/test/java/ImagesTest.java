@@ -7,6 +7,7 @@ final class ImagesTest {
 
     public static void main(String[] args) {
         keepsAllButThePad();
+        keepsTheSights();
         twoImages();
         keptAnew();
         refused();
@@ -53,6 +54,28 @@ final class ImagesTest {
         CHECK.write(x, "!");
         CHECK.unchanged("restore again", before, x);
         CHECK.same("fits(-1)", x.fits(-1), fits);
+    }
+
+    /** As many sights, but others, are seen before it is restored. */
+    private static void keepsTheSights() {
+        TrustedPause x = new TrustedPause();
+        x.seen(0, 2, true);
+        x.seen(3, 4, false);
+        x.seen(9, 5, true);
+        int fits = x.fits(-1);
+        int least = x.fits(0);
+        int question = x.ask(0);
+        CHECK.holds("some fit", fits > 1);
+        x.image(0);
+        int[][] others = {{1, 2, 1}, {3, 3, 0}, {9, 5, 0}};
+        x.forget();
+        for (int[] s : others) x.seen(s[0], s[1], s[2] == 1);
+        CHECK.holds("others fit", x.fits(-1) != fits);
+        x.restore(0);
+        CHECK.same("told(4)", x.told(4), 3);
+        CHECK.same("fits(-1)", x.fits(-1), fits);
+        CHECK.same("fits(0)", x.fits(0), least);
+        CHECK.same("ask(0)", x.ask(0), question);
     }
 
     private static void twoImages() {

@@ -214,7 +214,7 @@ final class LendingTest {
     }
 
     private static void firstBySearch() {
-        int[] sets = {0, 1, 2, 3, 8, 512, 768, 1022, 1020, 1023, 5, 341};
+        int[] sets = {0, 1, 2, 3, 8, 512, 768, 1022, 1020, 1023, 5, 341, 511, 510, 256, 767, 255};
         for (int set : sets) {
             TrustedPause x = new TrustedPause();
             x.kin(2, 50, 30, set);

@@ -14,6 +14,7 @@ final class RoundsTest {
         fits();
         askOfNothingSeen();
         askNarrows();
+        askLast();
         askOfNothingThatFits();
         CHECK.end();
     }
@@ -148,6 +149,17 @@ final class RoundsTest {
                 CHECK.holds("so many are left at the most", x.fits(-1) <= left && x.fits(-1) >= 1);
             }
         }
+    }
+
+    /** Here the last minute is the only one that halves what fits. */
+    private static void askLast() {
+        int[][] sights = {{56, 6, 0}, {9, 0, 0}, {41, 0, 0}, {26, 7, 0}, {29, 7, 1}};
+        TrustedPause x = new TrustedPause();
+        for (int[] s : sights) x.seen(s[0], s[1], s[2] == 1);
+        int[] due = questionOf(fitting(sights));
+        CHECK.same("due", due[0], 607);
+        CHECK.same("ask(0)", x.ask(0), 607);
+        CHECK.same("ask(1)", x.ask(1), due[1]);
     }
 
     private static int[] questionOf(List<Integer> codes) {
