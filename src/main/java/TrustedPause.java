@@ -297,7 +297,7 @@ public final class TrustedPause {
     }
 
     private static int breathAfterLetter(int breath) {
-        return Math.max(0, breath - 10);
+        return breath > 10 ? breath - 10 : 0;
     }
 
     /** Walks the text on the PAD: NO or STATE if that is refused, else CAN. */
@@ -544,7 +544,7 @@ public final class TrustedPause {
         }
 
         int signAt(int place) {
-            return place < count && isIn(place, 0, SIGNS - 1) ? signs[place] : 0;
+            return place >= 0 && place < count && place < SIGNS ? signs[place] : 0;
         }
 
         int faultyPlace() {
