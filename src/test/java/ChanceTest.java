@@ -127,7 +127,8 @@ final class ChanceTest {
         CHECK.same(call + "2)", living, Integer.bitCount(other.told(1)));
     }
 
-    private static String textOf(int x) {
+    /** The drawn ACT as a text; an empty one where none is drawn. */
+    static String textOf(int x) {
         char kin = (char) ('A' + x % 8);
         int z = x / 64;
         switch (x / 8 % 8) {

@@ -4,7 +4,7 @@ import java.util.List;
 import java.util.regex.Matcher;
 import java.util.regex.Pattern;
 
-/** The family and its days once more, written another way, for RandomDaysTest to compare with. */
+/** The family and its days once more, written another way, for RandomDaysTest and WholeModel to compare with. */
 final class Model {
     private static final Pattern DAYS = Pattern.compile("(?:[A-H](?:>[A-H]|\"[a-j]+\"|=|\\+)|!)*");
     private static final Pattern ACT = Pattern.compile("!|[A-H](?:>[A-H]|\"[a-j]+\"|=|\\+)");
@@ -49,6 +49,15 @@ final class Model {
         m.tied = tied;
         m.holder = holder == null ? null : m.people.get(holder.name);
         m.saved = saved;
+        return m;
+    }
+
+    /** All but the PAD, with TIES and TASKS of its own. */
+    Model twin() {
+        Model m = copy();
+        m.tied = new boolean[8][];
+        for (int i = 0; i < 8; i++) m.tied[i] = tied[i].clone();
+        for (int i = 0; i < 6; i++) m.tasks[i] = tasks[i].clone();
         return m;
     }
 
